@@ -26,7 +26,6 @@ public final class Shrinkforge {
     private final Program program;
     private final Image image;
     private final Flow flow;
-    private final Folder folder;
     private final Code foldedCode;
     private final Machine machine;
     private final Auditor auditor;
@@ -42,10 +41,9 @@ public final class Shrinkforge {
         program = new Program(MOST_INSTRUCTIONS);
         image = new Image();
         flow = new Flow();
-        folder = new Folder(flow);
         foldedCode = new Code(MOST_INSTRUCTIONS);
         machine = new Machine();
-        auditor = new Auditor(machine, flow, folder);
+        auditor = new Auditor(machine, flow);
         last = new Report();
         writer = new Writer();
     }
@@ -122,7 +120,7 @@ public final class Shrinkforge {
         if (typed.size >= MOST_INSTRUCTIONS) {
             throw new IllegalStateException("it has 30 instructions");
         }
-        typed.add(op, a, b);
+        typed.append(op, Op.needsA(op) ? a : 0, Op.needsB(op) ? b : 0);
         return typed.size;
     }
 
@@ -268,7 +266,7 @@ public final class Shrinkforge {
         if (!flow.allSuit(program)) {
             return REFUSED;
         }
-        image.take(program, folder);
+        image.take(program, flow);
         isShrunk = true;
         shrinks++;
         return Integer.bitCount(image.small.methods);
@@ -404,7 +402,7 @@ public final class Shrinkforge {
     }
 
     public boolean isSound() {
-        return !isShrunk || auditor.holds(image);
+        return !isShrunk || auditor.staysSame(image) && auditor.holds(image);
     }
 
     public long digest() {
@@ -418,7 +416,7 @@ public final class Shrinkforge {
             mixShrunk();
         }
         mixLastRun();
-        mix(!isShrunk || auditor.holds(image) ? 1 : 0);
+        mix(!isShrunk || auditor.staysSame(image) && auditor.holds(image) ? 1 : 0);
         return sum;
     }
 
@@ -529,7 +527,7 @@ public final class Shrinkforge {
             return false;
         }
         foldedCode.become(program.codes[method]);
-        folder.fold(foldedCode);
+        flow.fold(foldedCode);
         return true;
     }
 
@@ -634,6 +632,7 @@ public final class Shrinkforge {
         private static final int TELL_MEMBER = 1 << GET | 1 << PUT | 1 << SGET | 1 << SPUT
                 | 1 << CALL | 1 << DCALL | 1 << SCALL;
         private static final int TELL_CLASS = TELL_MEMBER | 1 << NEW | 1 << CAST | 1 << ISA;
+        private static final int TELL_A = TELL_NUMBER | TELL_CLASS;
 
         /** By OP; of calls without what the ARITY tells. */
         private static final int[] TAKES = {
@@ -669,7 +668,7 @@ public final class Shrinkforge {
         }
 
         private static boolean needsA(int op) {
-            return op == BEGIN || tellsNumber(op) || tellsClass(op);
+            return has(TELL_A, op);
         }
 
         private static boolean needsB(int op) {
@@ -824,25 +823,29 @@ public final class Shrinkforge {
             guards = 0;
         }
 
-        private void add(int op, int a, int b) {
+        /** Another INSTRUCTION comes behind the others, with the numbers as they are. */
+        private void append(int op, int a, int b) {
             if (size < ops.length) {
+                ops[size] = op;
+                as[size] = a;
+                bs[size] = b;
+                origins[size] = size;
                 size++;
-                put(size - 1, op, a, b);
             }
         }
 
+        /** Another INSTRUCTION stands there, as it is typed: what it does not need is 0. */
         private void put(int place, int op, int a, int b) {
             if (hasPlace(place)) {
                 ops[place] = op;
                 as[place] = Op.needsA(op) ? a : 0;
                 bs[place] = Op.needsB(op) ? b : 0;
-                origins[place] = place;
             }
         }
 
         /** Another OP without b stands there, and the ORIGIN stays. */
         private void turnInto(int place, int op, int a) {
-            if (hasPlace(place)) {
+            if (place >= 0 && place < size) {
                 ops[place] = op;
                 as[place] = a;
                 bs[place] = 0;
@@ -1069,7 +1072,7 @@ public final class Shrinkforge {
         private int kinds(int cls) {
             int kinds = 0;
             int at = cls;
-            for (int up = 0; up < MOST_CLASSES && has(classes, at); up++) {
+            for (int up = 0; up < MOST_CLASSES && at >= 0 && at < above.length && (classes >>> at & 1) != 0; up++) {
                 kinds |= 1 << at | ownInterfaces[at];
                 at = above[at];
             }
@@ -1118,11 +1121,10 @@ public final class Shrinkforge {
             return NONE;
         }
 
-        /** The field that GET, PUT, SGET or SPUT is for, or NONE if there is none or it is not what it must be. */
-        private int fittingField(int op, int cls, int name) {
-            int field = firstField(cls, name);
+        /** Whether the field that GET, PUT, SGET or SPUT found first is there, and what it must be. */
+        private boolean isFitting(int op, int field) {
             boolean wantsStatic = op == Op.SGET || op == Op.SPUT;
-            return field != NONE && has(staticFields, field) == wantsStatic ? field : NONE;
+            return has(fields, field) && has(staticFields, field) == wantsStatic;
         }
 
         private int tellClass(int cls, int what) {
@@ -1314,12 +1316,12 @@ public final class Shrinkforge {
 
         private static void typeCodes(Program program, int[] rows) {
             for (int at = 0; at + 3 < rows.length; at += 4) {
-                program.codes[rows[at]].add(rows[at + 1], rows[at + 2], rows[at + 3]);
+                program.codes[rows[at]].append(rows[at + 1], rows[at + 2], rows[at + 3]);
             }
         }
     }
 
-    /** Where a code goes: what is LIVE, what is RIGHT. */
+    /** Where a code goes: what is LIVE, what is RIGHT, what is FOLDED. */
     private static final class Flow {
         /** HEIGHTS by places, as heightsAgree left them; NONE where nothing comes to. */
         private final int[] heights;
@@ -1478,37 +1480,23 @@ public final class Shrinkforge {
             }
             return heights[place] == height;
         }
-    }
-
-    /** FOLDS codes. */
-    private static final class Folder {
-        private final Flow flow;
-
-        private Folder(Flow flow) {
-            this.flow = flow;
-        }
 
         private void fold(Code code) {
             for (int round = 0; round <= MOST_INSTRUCTIONS; round++) {
-                int live = flow.livePlaces(code);
+                int live = livePlaces(code);
                 for (int place = code.size - 1; place >= 0; place--) {
                     if (!has(live, place)) {
                         code.takeOut(place);
                     }
                 }
-                if (!foldsOnce(code)) {
+                boolean isDone = true;
+                for (int place = 0; isDone && place < code.size; place++) {
+                    isDone = !foldsAt(code, place);
+                }
+                if (isDone) {
                     break;
                 }
             }
-        }
-
-        private static boolean foldsOnce(Code code) {
-            for (int place = 0; place < code.size; place++) {
-                if (foldsAt(code, place)) {
-                    return true;
-                }
-            }
-            return false;
         }
 
         private static boolean foldsAt(Code code, int place) {
@@ -1591,12 +1579,12 @@ public final class Shrinkforge {
             letterBehind = new int[MOST_CLASSES];
         }
 
-        private void take(Program program, Folder folder) {
+        private void take(Program program, Flow flow) {
             was.become(program);
             small.become(program);
             for (int method = 0; method < MOST_METHODS; method++) {
                 if (has(small.methods, method)) {
-                    folder.fold(small.codes[method]);
+                    flow.fold(small.codes[method]);
                 }
             }
             reachAll();
@@ -1659,8 +1647,9 @@ public final class Shrinkforge {
 
         private void reachField(int op, int a, int name) {
             boolean isRead = op == Op.GET || op == Op.SGET;
-            if (isRead || small.fittingField(op, a, name) == NONE) {
-                reachedFields = with(reachedFields, small.firstField(a, name), true);
+            int field = small.firstField(a, name);
+            if (isRead || !small.isFitting(op, field)) {
+                reachedFields = with(reachedFields, field, true);
             }
         }
 
@@ -1677,8 +1666,8 @@ public final class Shrinkforge {
                 int op = code.opAt(place);
                 int a = code.aAt(place);
                 if (op == Op.PUT || op == Op.SPUT) {
-                    int field = small.fittingField(op, a, code.bAt(place));
-                    if (field != NONE && !has(reachedFields, field)) {
+                    int field = small.firstField(a, code.bAt(place));
+                    if (small.isFitting(op, field) && !has(reachedFields, field)) {
                         code.turnInto(place, op == Op.PUT ? Op.DROP : Op.SDROP, a);
                     }
                 }
@@ -1883,8 +1872,8 @@ public final class Shrinkforge {
             }
             if (Op.tellsField(op)) {
                 text.append('.');
-                int field = image.small.fittingField(op, a, b);
-                addLetter(field == NONE ? NONE : image.fieldLetters[field]);
+                int field = image.small.firstField(a, b);
+                addLetter(image.small.isFitting(op, field) ? image.fieldLetters[field] : NONE);
             } else if (Op.isCall(op)) {
                 addFamily(image, b);
             }
@@ -2298,75 +2287,57 @@ public final class Shrinkforge {
         private int step() {
             int top = goingOn - 1;
             Code code = program.codes[methods[top]];
-            int place = places[top];
-            int op = code.opAt(place);
-            int a = code.aAt(place);
+            int op = code.opAt(places[top]);
+            int a = code.aAt(places[top]);
+            int b = code.bAt(places[top]);
             if (Op.tellsPlace(op) || op == Op.THROW || op == Op.RETURN) {
                 return flowStep(op, a);
             }
             if (Op.isCall(op)) {
-                return callStep(op, a, code.bAt(place));
+                return callStep(op, a, b);
             }
-            int kind = plainStep(op, a, code.bAt(place));
+            int kind;
+            if (Op.reckons(op)) {
+                kind = reckonStep(op);
+            } else if (op == Op.NEG || op == Op.PRINT) {
+                kind = intStep(op);
+            } else if (Op.tellsField(op) || op == Op.DROP) {
+                kind = fieldStep(op, a, b);
+            } else if (op == Op.NEW || op == Op.NEWBY || op == Op.CAST || op == Op.ISA) {
+                kind = classStep(op, a);
+            } else if (op == Op.BEGIN) {
+                kind = beginPutIn(a);
+            } else {
+                kind = stackStep(op, a);
+            }
             if (kind == FINE) {
                 places[top]++;
             }
             return kind;
         }
 
-        private int plainStep(int op, int a, int b) {
-            if (Op.reckons(op)) {
-                return reckonStep(op);
-            }
-            if (Op.tellsField(op) || op == Op.DROP) {
-                return fieldStep(op, a, b);
-            }
-            switch (op) {
-                case Op.NEG:
-                case Op.PRINT:
-                    return intStep(op);
-                case Op.NEW:
-                    return make(a, true);
-                case Op.NEWBY:
-                case Op.CAST:
-                case Op.ISA:
-                    return classStep(op, a);
-                case Op.BEGIN:
-                    return beginPutIn(a);
-                default:
-                    stackStep(op, a);
-                    return FINE;
-            }
-        }
-
-        private void stackStep(int op, int a) {
+        /** What never goes wrong. */
+        private int stackStep(int op, int a) {
+            int variable = (goingOn - 1) * VARIABLES + (a >= 0 && a < VARIABLES ? a : 0);
             switch (op) {
                 case Op.PUSH:
                     push(intValue(a));
                     break;
                 case Op.LOAD:
-                    push(isVariable(a) ? variables[(goingOn - 1) * VARIABLES + a] : 0L);
+                    push(variables[variable]);
                     break;
                 case Op.STORE:
-                    long stored = pop();
-                    if (isVariable(a)) {
-                        variables[(goingOn - 1) * VARIABLES + a] = stored;
-                    }
+                    variables[variable] = pop();
                     break;
                 case Op.POP:
                 case Op.SDROP:
                     pop();
                     break;
                 case Op.DUP:
-                    long copied = pop();
-                    push(copied);
-                    push(copied);
+                    putTwice(pop());
                     break;
                 case Op.SWAP:
-                    long upper = pop();
-                    long lower = pop();
-                    push(upper);
-                    push(lower);
+                    putOther(pop(), pop());
                     break;
                 case Op.NULL:
                     push(NULL_VALUE);
@@ -2374,10 +2345,17 @@ public final class Shrinkforge {
                 default:
                     break;
             }
+            return FINE;
         }
 
-        private static boolean isVariable(int a) {
-            return a >= 0 && a < VARIABLES;
+        private void putTwice(long value) {
+            push(value);
+            push(value);
+        }
+
+        private void putOther(long upper, long lower) {
+            push(upper);
+            push(lower);
         }
 
         private void push(long value) {
@@ -2428,6 +2406,9 @@ public final class Shrinkforge {
         }
 
         private int classStep(int op, int a) {
+            if (op == Op.NEW) {
+                return make(a, true);
+            }
             long x = pop();
             if (op == Op.NEWBY) {
                 return isInt(x) ? make((int) x, has(program.namedClasses, (int) x)) : OTHER_VALUE;
@@ -2458,7 +2439,8 @@ public final class Shrinkforge {
 
         private int classOf(long value) {
             int object = (int) value;
-            return isObject(value) && object >= 0 && object < objects ? objectClasses[object] : NONE;
+            boolean isThere = (value & OBJECT_TAG) != 0 && object >= 0 && object < objects;
+            return isThere ? objectClasses[object] : NONE;
         }
 
         /** What is wrong where an OBJECT of a class that IS A class a is wanted. */
@@ -2481,8 +2463,8 @@ public final class Shrinkforge {
             if (kind != FINE || op == Op.DROP) {
                 return kind;
             }
-            int field = program.fittingField(op, a, b);
-            if (field < 0 || field >= statics.length) {
+            int field = program.firstField(a, b);
+            if (field < 0 || field >= statics.length || !program.isFitting(op, field)) {
                 return NONE_SUCH;
             }
             if (isStatic && stores) {
@@ -2684,7 +2666,7 @@ public final class Shrinkforge {
                 if (target != NONE && into.size + lengthOf(image.small, target) + from.size <= Machine.LONGEST_CODE) {
                     putCall(image.small, target, from.aAt(place), image.small.variablesOf(host), into);
                 } else {
-                    into.add(from.opAt(place), from.aAt(place), from.bAt(place));
+                    into.append(from.opAt(place), from.aAt(place), from.bAt(place));
                 }
             }
             starts[from.size] = into.size;
@@ -2731,19 +2713,19 @@ public final class Shrinkforge {
             int first = isStatic ? base : base + 1;
             int arity = small.arityOf(target);
             for (int argument = arity - 1; argument >= 0; argument--) {
-                into.add(Op.STORE, first + argument, 0);
+                into.append(Op.STORE, first + argument, 0);
             }
             if (!isStatic) {
                 // A DROP goes wrong with the object as the call would, and stores nothing.
-                into.add(Op.DUP, 0, 0);
-                into.add(Op.PUSH, 0, 0);
-                into.add(Op.DROP, a, 0);
-                into.add(Op.STORE, base, 0);
+                into.append(Op.DUP, 0, 0);
+                into.append(Op.PUSH, 0, 0);
+                into.append(Op.DROP, a, 0);
+                into.append(Op.STORE, base, 0);
             }
-            into.add(Op.BEGIN, target, 0);
+            into.append(Op.BEGIN, target, 0);
             for (int local = 0; local < small.locals[target]; local++) {
-                into.add(Op.PUSH, 0, 0);
-                into.add(Op.STORE, first + arity + local, 0);
+                into.append(Op.PUSH, 0, 0);
+                into.append(Op.STORE, first + arity + local, 0);
             }
             putBody(small.codes[target], base, into);
         }
@@ -2755,13 +2737,13 @@ public final class Shrinkforge {
                 int op = body.opAt(place);
                 int a = body.aAt(place);
                 if (op == Op.RETURN) {
-                    into.add(Op.JUMP, end, 0);
+                    into.append(Op.JUMP, end, 0);
                 } else if (Op.tellsPlace(op)) {
-                    into.add(op, start + a, 0);
+                    into.append(op, start + a, 0);
                 } else if (Op.tellsVariable(op)) {
-                    into.add(op, base + a, 0);
+                    into.append(op, base + a, 0);
                 } else {
-                    into.add(op, a, body.bAt(place));
+                    into.append(op, a, body.bAt(place));
                 }
             }
         }
@@ -2789,24 +2771,23 @@ public final class Shrinkforge {
 
         private final Machine machine;
         private final Flow flow;
-        private final Folder folder;
         private final Inliner inliner;
         private final Image next;
         private final Report before;
         private final Report behind;
 
-        private Auditor(Machine machine, Flow flow, Folder folder) {
+        private Auditor(Machine machine, Flow flow) {
             this.machine = machine;
             this.flow = flow;
-            this.folder = folder;
             inliner = new Inliner(flow);
             next = new Image();
             before = new Report();
             behind = new Report();
         }
 
+        /** Whether all is so that isSound() tells, but for what staysSame() looks at. */
         private boolean holds(Image image) {
-            if (!staysSame(image) || !namesAreUnlike(image) || !fieldNamesAreUnlike(image) || !comesFromLive(image)) {
+            if (!namesAreUnlike(image) || !fieldNamesAreUnlike(image) || !comesFromLive(image)) {
                 return false;
             }
             inliner.take(image);
@@ -2826,7 +2807,7 @@ public final class Shrinkforge {
             if (!flow.allSuit(small)) {
                 return false;
             }
-            next.take(small, folder);
+            next.take(small, flow);
             Program other = next.small;
             if (other.classes != small.classes || other.methods != small.methods || other.fields != small.fields) {
                 return false;
@@ -2853,11 +2834,17 @@ public final class Shrinkforge {
         private boolean runAlike(Image image, int method, int told) {
             machine.perform(image.small, method, told, behind);
             machine.perform(image.was, method, told, before);
+            return areReportsAlike();
+        }
+
+        private boolean areReportsAlike() {
             return before.hasSameResultAndOut(behind) && before.beats == behind.beats && before.hasSameTrace(behind);
         }
 
         private boolean comesToSame(Image image, int method, int told) {
-            if (!runAlike(image, method, told) || behind.steps > before.steps) {
+            machine.perform(image.small, method, told, behind);
+            machine.perform(image.was, method, told, before);
+            if (!areReportsAlike() || behind.steps > before.steps) {
                 return false;
             }
             machine.perform(inliner.whole, method, told, behind);
