@@ -1,3 +1,4 @@
+import java.util.Random;
 import java.util.Set;
 
 /** Random programs: each answer is compared with that of the Model, and what must always be so is looked at. */
@@ -7,6 +8,7 @@ final class RandomProgramsTest {
     private static int open;
     private static int wrongRuns;
     private static int fine;
+    private static int changedRight;
 
     public static void main(String[] args) {
         int many = args.length > 0 ? Integer.parseInt(args[0]) : 3000;
@@ -17,7 +19,7 @@ final class RandomProgramsTest {
                 break;
             }
         }
-        System.out.println("right " + right + ", open " + open + ", wrong " + wrongRuns + ", fine " + fine);
+        System.out.println("right " + right + ", changed and right " + changedRight + ", open " + open + ", wrong " + wrongRuns + ", fine " + fine);
         Check.isTrue("enough right ones", right > many / 4);
         Check.finish("RandomProgramsTest");
     }
@@ -38,6 +40,38 @@ final class RandomProgramsTest {
         }
         Check.isTrue(at + "isSound", x.isSound());
         x.digest();
+        Random random = new Random(seed);
+        for (int turn = 1; turn <= 4; turn++) {
+            changeSome(random, x, model);
+            compareTyped(at + "changed " + turn + ": ", x, model);
+            Check.same(at + "areRight", x.areRight(), model.allRight());
+            if (model.allRight()) {
+                changedRight++;
+                compareShrunk(at + "changed " + turn + ": ", x, model);
+            }
+            Check.isTrue(at + "isSound", x.isSound());
+        }
+    }
+
+    private static void changeSome(Random random, Shrinkforge x, Model model) {
+        for (int m = 0; m < model.methods.size(); m++) {
+            Model.Body body = model.methods.get(m).body;
+            int many = body.rows.size();
+            if (many > 0 && random.nextInt(3) == 0) {
+                int place = random.nextInt(many);
+                int op = random.nextInt(32);
+                int a = random.nextInt(4) == 0 ? random.nextInt(40) - 4 : random.nextInt(many);
+                int b = random.nextInt(random.nextInt(3) == 0 ? 64 : 10);
+                x.change(m, place, op, a, b);
+                body.rows.set(place, new Model.Ins(op, a, b, place));
+            }
+            if (many > 0 && many < 30 && random.nextInt(9) == 0) {
+                int op = random.nextInt(32);
+                int a = random.nextInt(many);
+                x.code(m, op, a, 1);
+                body.rows.add(new Model.Ins(op, a, 1, many));
+            }
+        }
     }
 
     private static void compareTyped(String at, Shrinkforge x, Model model) {
