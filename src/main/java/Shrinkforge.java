@@ -1,5 +1,3 @@
-import java.util.Arrays;
-
 /** A shrinker of whole programs: they are typed, run, shrunk, and run again as they were shrunk. */
 public final class Shrinkforge {
     private static final int NONE = -1;
@@ -1417,7 +1415,9 @@ public final class Shrinkforge {
         }
 
         private boolean heightsAgree(Code code) {
-            Arrays.fill(heights, NONE);
+            for (int place = 0; place < heights.length; place++) {
+                heights[place] = NONE;
+            }
             if (code.size == 0 || code.size > heights.length) {
                 return false;
             }
@@ -2092,7 +2092,9 @@ public final class Shrinkforge {
         }
 
         private void clear() {
-            Arrays.fill(starts, 0);
+            for (int method = 0; method < starts.length; method++) {
+                starts[method] = 0;
+            }
             ending = GOING;
             number = 0;
             kind = 0;
@@ -2244,7 +2246,9 @@ public final class Shrinkforge {
             program = which;
             report = into;
             report.clear();
-            Arrays.fill(statics, 0L);
+            for (int field = 0; field < statics.length; field++) {
+                statics[field] = 0L;
+            }
             objects = 0;
             cells = 0;
             goingOn = 0;
@@ -2269,7 +2273,9 @@ public final class Shrinkforge {
             methods[goingOn] = method;
             places[goingOn] = 0;
             heights[goingOn] = 0;
-            Arrays.fill(variables, goingOn * VARIABLES, goingOn * VARIABLES + VARIABLES, 0L);
+            for (int variable = 0; variable < VARIABLES; variable++) {
+                variables[goingOn * VARIABLES + variable] = 0L;
+            }
             goingOn++;
             report.addStart(method, goingOn);
         }
@@ -2681,26 +2687,26 @@ public final class Shrinkforge {
             }
             int a = code.aAt(place);
             int b = code.bAt(place);
-            int target;
-            if (op == Op.CALL) {
-                int targets = image.targetsOf(a, b);
-                target = Integer.bitCount(targets) == 1 ? Integer.numberOfTrailingZeros(targets) : NONE;
-            } else {
-                target = image.small.firstMethod(a, b);
-            }
-            boolean isFitting = has(leaves, target) && has(image.small.staticMethods, target) == (op == Op.SCALL);
-            return isFitting && findsAlways(image, op, a, b) ? target : NONE;
+            int target = op == Op.CALL ? onlyTarget(image, a, b) : image.small.firstMethod(a, b);
+            boolean isStatic = has(image.small.staticMethods, target);
+            return has(leaves, target) && isStatic == (op == Op.SCALL) ? target : NONE;
         }
 
-        /** Whether no MADE class lets a CALL find nothing. */
-        private static boolean findsAlways(Image image, int op, int a, int signature) {
-            for (int cls = 0; op == Op.CALL && cls < MOST_CLASSES; cls++) {
-                if (has(image.made, cls) && has(image.small.kinds(cls), a)
-                        && image.small.firstMethod(cls, signature) == NONE) {
-                    return false;
+        /** What a CALL finds from all MADE classes alike, or NONE. */
+        private static int onlyTarget(Image image, int a, int signature) {
+            int only = NONE;
+            boolean isFirst = true;
+            for (int cls = 0; cls < MOST_CLASSES; cls++) {
+                if (has(image.made, cls) && has(image.small.kinds(cls), a)) {
+                    int found = image.small.firstMethod(cls, signature);
+                    if (!isFirst && found != only) {
+                        return NONE;
+                    }
+                    only = found;
+                    isFirst = false;
                 }
             }
-            return true;
+            return only;
         }
 
         private static int lengthOf(Program small, int target) {

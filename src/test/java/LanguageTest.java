@@ -28,9 +28,7 @@ final class LanguageTest {
         for (int at = 0; at < rows.size(); at++) {
             Check.isTrue("row " + (at + 1) + " is short", rows.get(at).length() <= 120);
             String row = rows.get(at).trim();
-            if (row.startsWith("import ")) {
-                Check.same("import", row, "import java.util.Arrays;");
-            }
+            Check.isTrue("nothing is imported", !row.startsWith("import "));
             if (row.contains("throw ")) {
                 Check.isTrue("throw: " + row, row.matches(
                         "throw new (IllegalState|IllegalArgument|IndexOutOfBounds)Exception\\(\"[^\"]*\"\\);"));
