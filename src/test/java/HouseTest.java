@@ -64,6 +64,53 @@ final class HouseTest {
                 + " PUSH 9; LOAD 0; PUSH 7; SUB; DIV; RETURN");
         y.shrink();
         Check.isTrue("calls put in", y.isSound());
+        soundWithObjects();
+        soundWithWrongs();
+    }
+
+    /** What is called reads the object, its arguments and its variables, above VALUES of who calls. */
+    private static void soundWithObjects() {
+        Shrinkforge x = Ops.withEntry("NEW 1; STORE 1; LOAD 1; LOAD 0; PUT 0 0; PUSH 100; LOAD 1; LOAD 0; PUSH 3; CALL 0 6;"
+                + " SUB; PRINT; LOAD 1; PUSH 5; PUSH 6; DCALL 1 6; PRINT; PUSH 50; LOAD 0; SCALL 0 9; ADD; RETURN");
+        x.cls(0, false);
+        x.field(0, 0, false);
+        x.method(0, 1, 2, false, 2);
+        x.method(0, 2, 1, true, 1);
+        Ops.type(x, 1, "LOAD 3; PRINT; LOAD 0; GET 0 0; LOAD 1; MUL; LOAD 2; ADD; STORE 3; LOAD 3; IF0 13; LOAD 3; RETURN;"
+                + " PUSH 77; RETURN");
+        Ops.type(x, 2, "LOAD 1; LOAD 0; LESS; IF0 9; LOAD 1; PUSH 1; ADD; STORE 1; JUMP 0; LOAD 1; PUSH 2; MUL; RETURN");
+        x.shrink();
+        Check.same("run", x.run(0, 7), "=64");
+        Check.same("out", x.out(), "0 48 0 41");
+        Check.isTrue("with objects", x.isSound());
+    }
+
+    /** What goes wrong in what is called is seen by the GUARD of who calls; so is an object that is none. */
+    private static void soundWithWrongs() {
+        String[] objects = {"NULL", "PUSH 4", "NEW 2", "NEW 1", "NEW 0"};
+        for (String object : objects) {
+            Shrinkforge x = Ops.withEntry(object + "; LOAD 0; CALL 1 5; RETURN; PRINT; LOAD 0; RETURN");
+            x.cls(0, false);
+            x.cls(-1, false);
+            x.method(1, 1, 1, false, 1);
+            Ops.type(x, 1, "LOAD 1; PUSH 1; SUB; STORE 2; PUSH 9; LOAD 1; DIV; LOAD 2; IF0 11; PUSH 1; THROW; RETURN");
+            x.shrink();
+            Check.isTrue("without a guard " + object, x.isSound());
+            x.guard(0, 1, 3, 4);
+            x.shrink();
+            Check.isTrue("with a guard " + object, x.isSound());
+        }
+        Shrinkforge y = Ops.withEntry("LOAD 1; SCALL 0 5; STORE 1; JUMP 0");
+        y.method(0, 1, 1, true, 0);
+        Ops.type(y, 1, "LOAD 0; PRINT; LOAD 0; PUSH 1; ADD; RETURN");
+        y.shrink();
+        Check.isTrue("open ones", y.isSound());
+        Shrinkforge z = Ops.withEntry("PUSH 1; SCALL 0 5; POP; LOAD 0; SCALL 0 1; RETURN; PRINT; LOAD 0; RETURN");
+        z.method(0, 1, 1, true, 0);
+        Ops.type(z, 1, "LOAD 0; RETURN");
+        z.guard(0, 1, 2, 6);
+        z.shrink();
+        Check.isTrue("too deep for a leaf", z.isSound());
     }
 
     /** The checksum once more, by the calls of the face. */

@@ -161,6 +161,23 @@ final class RunTest {
         Shrinkforge x = withFields("SGET 0 1; LOAD 0; SPUT 0 1; RETURN");
         Check.same("first run", x.run(0, 4), "=0");
         Check.same("static fields begin again", x.run(0, 4), "=0");
+        manyObjects();
+    }
+
+    /** Each run makes 300 OBJECTS with two fields each, and reads them. */
+    private static void manyObjects() {
+        Shrinkforge x = new Shrinkforge();
+        x.cls(-1, false);
+        x.field(0, 0, false);
+        x.field(0, 1, false);
+        x.method(0, 0, 1, true, 2);
+        x.entry(0, true);
+        Ops.type(x, 0, "NEW 0; STORE 1; LOAD 1; LOAD 0; PUT 0 0; LOAD 1; PUSH 3; PUT 0 1; LOAD 2; LOAD 1; GET 0 0;"
+                + " LOAD 1; GET 0 1; MUL; ADD; STORE 2; LOAD 0; PUSH 1; SUB; DUP; STORE 0; IF0 23; JUMP 0; LOAD 2; RETURN");
+        for (int time = 0; time < 60; time++) {
+            Check.same("many objects " + time, x.run(0, 300), "=135450");
+        }
+        Check.same("beats of many objects", x.ofRun(0), 299);
     }
 
     /** Adds C0.m1/2 = x - y, C1.m1/2 = 1, C0.m2/0 STATIC = 8, C0.m3/1 ABSTRACT. */

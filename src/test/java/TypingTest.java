@@ -248,6 +248,59 @@ final class TypingTest {
         Check.same("shrunk stays", x.map(), "C0>C0: m0/1>m0;");
         sampleRuns();
         sampleMaking(x);
+        sampleTexts(x);
+    }
+
+    /** All that can be asked of a program as one text. */
+    private static String told(Shrinkforge x) {
+        StringBuilder text = new StringBuilder();
+        for (int c = 0; c < x.house(0); c++) {
+            text.append("C").append(c);
+            for (int what = 0; what < 4; what++) {
+                text.append(' ').append(x.ofClass(c, what));
+            }
+            text.append("; ");
+        }
+        for (int f = 0; f < x.house(1); f++) {
+            text.append("F");
+            for (int what = 0; what < 3; what++) {
+                text.append(' ').append(x.ofField(f, what));
+            }
+            text.append("; ");
+        }
+        for (int m = 0; m < x.house(2); m++) {
+            text.append("M");
+            for (int what = 0; what < 8; what++) {
+                text.append(' ').append(x.ofMethod(m, what));
+            }
+            text.append(": ");
+            for (int place = 0; place < x.ofMethod(m, 5); place++) {
+                text.append(Ops.word(x.instruction(m, place, 0))).append(' ').append(x.instruction(m, place, 1));
+                text.append(' ').append(x.instruction(m, place, 2)).append("; ");
+            }
+        }
+        return text.toString();
+    }
+
+    private static void sampleTexts(Shrinkforge x) {
+        x.sample(0);
+        Check.same("sample 0", told(x), "C0 -1 0 0 0; C1 0 0 0 0; C2 0 0 0 0; M 0 0 1 1 0 7 0 1: LOAD 0 0; IF0 4 0; NEW 0 0;"
+                + " JUMP 5 0; NEW 1 0; CALL 0 4; RETURN 0 0; M 0 1 0 0 0 2 0 0: PUSH 1 0; RETURN 0 0;"
+                + " M 1 1 0 0 0 2 0 0: PUSH 2 0; RETURN 0 0; M 2 1 0 0 0 2 0 0: PUSH 3 0; RETURN 0 0; ");
+        x.sample(1);
+        Check.same("sample 1", told(x), "C0 -1 0 0 0; M 0 0 1 1 1 19 0 1: PUSH 2 0; PUSH 3 0; ADD 0 0; STORE 1 0;"
+                + " LOAD 1 0; IF0 13 0; LOAD 1 0; PRINT 0 0; LOAD 1 0; PUSH -1 0; ADD 0 0; STORE 1 0; JUMP 4 0; PUSH 0 0;"
+                + " IF0 17 0; PUSH 9 0; PRINT 0 0; LOAD 0 0; RETURN 0 0; ");
+        x.sample(2);
+        Check.same("sample 2", told(x), "C0 -1 0 0 0; M 0 0 1 1 0 6 1 1: LOAD 0 0; SCALL 0 5; RETURN 0 0; PRINT 0 0;"
+                + " PUSH -1 0; RETURN 0 0; M 0 1 1 1 0 4 0 0: PUSH 10 0; LOAD 0 0; DIV 0 0; RETURN 0 0;"
+                + " M 0 2 1 1 0 4 0 1: NOP 0 0; LOAD 0 0; SCALL 0 5; RETURN 0 0; ");
+        x.sample(3);
+        Check.same("sample 3", told(x), "C0 -1 0 0 0; C1 0 0 1 0; C2 -1 1 0 0; C3 0 0 1 4; F 0 0 0; F 0 1 0; F 1 0 0; F 0 2 1;"
+                + " M 0 0 1 1 1 19 0 1: LOAD 0 0; NEWBY 0 0; STORE 1 0; LOAD 1 0; PUSH 7 0; PUT 0 0; LOAD 1 0; PUSH 4 0;"
+                + " PUT 0 1; PUSH 2 0; SPUT 0 2; LOAD 1 0; GET 0 0; LOAD 1 0; PUSH 5 0; PUSH 6 0; CALL 2 6; SUB 0 0;"
+                + " RETURN 0 0; M 2 1 2 0 0 0 0 0: M 3 1 2 0 0 4 0 0: LOAD 1 0; LOAD 2 0; MUL 0 0; RETURN 0 0;"
+                + " M 2 3 1 0 0 0 0 0: M 3 1 1 0 0 2 0 0: PUSH 1 0; RETURN 0 0; ");
     }
 
     private static void sampleRuns() {
