@@ -117,6 +117,11 @@ final class ShrinkTest {
         Ops.type(y, 1, "PUSH 1; RETURN");
         Ops.type(y, 2, "PUSH 2; RETURN");
         Check.same("a NEW that is never come to", y.shrink(), 2);
+        Shrinkforge z = Ops.withEntry("NULL; CALL 0 4; POP; NEW 1; RETURN");
+        z.cls(0, false);
+        z.method(1, 1, 0, false, 0);
+        Ops.type(z, 1, "PUSH 2; RETURN");
+        Check.same("a NEW behind the CALL", z.shrink(), 2);
         Check.same("not kept", y.isKept(0, 1), false);
     }
 
