@@ -2257,7 +2257,7 @@ public final class Shrinkforge {
             if (program.arityOf(entry) == 1) {
                 variables[0] = intValue(told);
             }
-            for (int steps = 0; steps < MOST_STEPS && report.ending == Report.GOING; steps++) {
+            for (int steps = 0; steps < MOST_STEPS && goingOn > 0 && report.ending == Report.GOING; steps++) {
                 report.steps++;
                 int kind = step();
                 if (kind != FINE) {
