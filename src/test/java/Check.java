@@ -50,6 +50,18 @@ final class Check {
         same(what, got, due);
     }
 
+    /** What each of the document's exceptions is called in refuses(). */
+    static final Class<?> INDEX = IndexOutOfBoundsException.class;
+    static final Class<?> ARGUMENT = IllegalArgumentException.class;
+    static final Class<?> STATE = IllegalStateException.class;
+
+    /** The call throws exactly that, and the checksum of all that can be asked is as before. */
+    static void refuses(Shrinkforge x, String what, Class<?> due, Call call) {
+        long before = x.digest();
+        fails(what, call, due);
+        same(what + " changes nothing", x.digest(), before);
+    }
+
     static int wrongSoFar() {
         return wrong;
     }

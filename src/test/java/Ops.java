@@ -78,6 +78,85 @@ final class Ops {
         return x;
     }
 
+    /**
+     * A program told in rows: "class", "class 0" (its SUPER), "interface", each with "named" or "has 2" behind it;
+     * "field 0 3 static"; "method 0 1 2 static entry locals 1: PUSH 1; RETURN" (class, NAME, ARITY);
+     * "guard 0 1 2 3" (method, from, to, HANDLER). An ENTRY is told at the end: its code is there then.
+     */
+    static Shrinkforge program(String... rows) {
+        Shrinkforge x = new Shrinkforge();
+        for (String row : rows) {
+            int colon = row.indexOf(':');
+            String code = colon < 0 ? "" : row.substring(colon + 1);
+            String head = colon < 0 ? row : row.substring(0, colon);
+            addRow(x, head.trim().split(" +"), code);
+        }
+        return x;
+    }
+
+    private static void addRow(Shrinkforge x, String[] words, String code) {
+        switch (words[0]) {
+            case "class":
+                addKind(x, words, false);
+                break;
+            case "interface":
+                addKind(x, words, true);
+                break;
+            case "field":
+                x.field(number(words, 1), number(words, 2), has(words, "static"));
+                break;
+            case "guard":
+                x.guard(number(words, 1), number(words, 2), number(words, 3), number(words, 4));
+                break;
+            case "method":
+                int method = x.method(number(words, 1), number(words, 2), number(words, 3), has(words, "static"),
+                        behind(words, "locals", 0));
+                type(x, method, code);
+                if (has(words, "entry")) {
+                    x.entry(method, true);
+                }
+                break;
+            default:
+                throw new IllegalArgumentException(words[0]);
+        }
+    }
+
+    private static void addKind(Shrinkforge x, String[] words, boolean isInterface) {
+        boolean isUnder = words.length > 1 && Character.isDigit(words[1].charAt(0));
+        int cls = x.cls(isUnder ? number(words, 1) : -1, isInterface);
+        for (int at = 1; at < words.length; at++) {
+            if (words[at].equals("named")) {
+                x.named(cls, true);
+            } else if (words[at].equals("has")) {
+                x.implement(cls, number(words, at + 1));
+            }
+        }
+    }
+
+    private static int number(String[] words, int at) {
+        return Integer.parseInt(words[at]);
+    }
+
+    private static boolean has(String[] words, String word) {
+        return behind(words, word, -1) != -1;
+    }
+
+    /** The number behind the word, 0 if the word is the last one. */
+    private static int behind(String[] words, String word, int without) {
+        for (int at = 0; at < words.length; at++) {
+            if (words[at].equals(word)) {
+                boolean isNumber = at + 1 < words.length && Character.isDigit(words[at + 1].charAt(0));
+                return isNumber ? number(words, at + 1) : 0;
+            }
+        }
+        return without;
+    }
+
+    /** "PUSH 1; " so many times. */
+    static String pushes(int many) {
+        return "PUSH 1; ".repeat(Math.max(many, 0));
+    }
+
     /** The FOLDED code of a method in the same form. */
     static String foldedCode(Shrinkforge x, int method) {
         StringBuilder text = new StringBuilder();
