@@ -94,6 +94,8 @@ final class KeptBoundaryTest {
         Check.same("by NEW of one that is, behind it", kept(shrunk("class", "class 0", "class 0", entry
                 + "LOAD 0; NEWBY; CALL 0 4; POP; SCALL 0 8; RETURN", methods[0], methods[1], methods[2],
                 "method 0 2 0 static: NEW 2; RETURN"), 1), "0 3 4");
+        Check.same("by NEW behind the CALL", kept(shrunk("class", "class 0", "class 0", entry + "LOAD 0; NEWBY; CALL 0 4; POP; NEW 2;"
+                + " RETURN", methods[0], methods[1], methods[2]), 1), "0 3");
         Shrinkforge x = shrunk("class", "interface named", "interface", "class", entry + "NEW 1; POP; NEW 2; POP; NEW 3; RETURN");
         Check.same("INTERFACES are not MADE", x.ofShrunk(4), 1);
         Check.same("but KEPT", kept(x, 0), "0 1 2 3");
